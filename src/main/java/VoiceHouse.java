@@ -151,7 +151,7 @@ public final class VoiceHouse {
         if (coder.waits >= MOST_WAITING) {
             return refuse(FULL);
         }
-        coder.await(v);
+        coder.addSample(v);
         return coder.waits;
     }
 
@@ -168,7 +168,7 @@ public final class VoiceHouse {
         for (int i = 0; i < n; i++) {
             // only kind 2 looks at it
             z = drawnFrom(z);
-            coder.await(kind == 2 ? (drawOf(z) * q) >> 7 : waveAt(kind, p, q, i));
+            coder.addSample(kind == 2 ? (drawOf(z) * q) >> 7 : waveAt(kind, p, q, i));
         }
         return coder.waits;
     }
@@ -1532,7 +1532,7 @@ public final class VoiceHouse {
             decoder = new Decoder(rate, tally, rows);
         }
 
-        void await(int v) {
+        void addSample(int v) {
             if (waits < MOST_WAITING) {
                 waiting[waits] = v;
                 waits++;

@@ -71,6 +71,10 @@ public final class FaceTest {
         }
         Class<?>[] inside = VoiceHouse.class.getDeclaredClasses();
         Check.isTrue("some twelve classes", inside.length <= 12);
+        for (Method method : VoiceHouse.class.getDeclaredMethods()) {
+            Check.isTrue(method + " bears a name of the face",
+                Modifier.isPublic(method.getModifiers()) || !open.contains(method.getName()));
+        }
         shapes(VoiceHouse.class, Set.of());
         for (Class<?> one : inside) {
             Check.isTrue(one + " is static", Modifier.isStatic(one.getModifiers()));

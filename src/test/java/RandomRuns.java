@@ -212,7 +212,7 @@ public final class RandomRuns {
     private void wave(int c) {
         int kind = upTo(0, 4);
         int p = kind == 0 ? upTo(-32768, 32767) : kind == 2 ? upTo(0, 100000) : upTo(2, chance.nextBoolean() ? 640 : 90);
-        int q = chance.nextInt(3) == 0 ? upTo(0, 300) : upTo(0, 32767);
+        int q = chance.nextInt(3) == 0 ? upTo(0, chance.nextBoolean() ? 3 : 300) : upTo(0, 32767);
         int n = chance.nextInt(4) == 0 ? upTo(1, 320) : 160;
         say("wave", c, kind, p, q, n);
         same(house.wave(c, kind, p, q, n), model.wave(c, kind, p, q, n));

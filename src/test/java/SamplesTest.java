@@ -11,6 +11,8 @@ public final class SamplesTest {
         encodeIsRefused();
         encodeTakesTheFirst();
         loudRamp();
+        tinySignals();
+        predictionEndsEarly();
         impulse();
         zeroFrame();
         silentFrame();
@@ -174,6 +176,43 @@ public final class SamplesTest {
         Check.due("INDEX 1", x.index(0, 1), -31);
         Check.due("its byte", x.byteOf(0, 0, 6), 1);
         Check.isTrue("a SATURATION", x.saturations() >= 1);
+    }
+
+    private static VoiceHouse encoded(int... first) {
+        VoiceHouse x = withCoder(0);
+        // INDEXES of a loud frame before it must not show through
+        x.wave(0, 2, 3, 20000, 80);
+        x.wave(0, 3, 9, 20000, 80);
+        x.encode(0);
+        for (int v : first) {
+            x.sample(0, v);
+        }
+        x.wave(0, 0, 0, 0, 160 - first.length);
+        x.encode(0);
+        return x;
+    }
+
+    /** 1, 1: r(0) = 2, r(1) = 1, p(0) is 3 then: z = -10922, INDEX 1 = -10410 >> 10 = -11. */
+    private static void tinySignals() {
+        Check.due("INDEX 1 of 1, 1", encoded(1, 1).index(0, 1), -11);
+        Check.due("INDEX 1 of 1, -1", encoded(1, -1).index(0, 1), 11);
+        VoiceHouse x = encoded();
+        for (int m = 1; m <= 8; m++) {
+            Check.due("INDEX " + m + " of zeros", x.index(0, m), 0);
+        }
+    }
+
+    /** By rounding P(1) gets as great as P(0) here: the INDEXES from there on are 0. */
+    private static void predictionEndsEarly() {
+        int[][] signals = {{1, -1, 1, -1, 1, -1, 1, -1, 1, -1}, {0, 1, 0, -1, -1, 0, 1}, {1, 1, 0, 0, 1, 1, -1, -1}};
+        int[][] want = {{26, -8, -8, -8, -16, -21, 0, 0}, {-6, 13, 16, 11, 11, 21, 0, 0},
+            {-9, 16, -19, 11, -11, 11, -11, 0}};
+        for (int k = 0; k < signals.length; k++) {
+            VoiceHouse x = encoded(signals[k]);
+            for (int m = 1; m <= 8; m++) {
+                Check.due("signal " + k + ", INDEX " + m, x.index(0, m), want[k][m - 1]);
+            }
+        }
     }
 
     /** One pulse of 8192 alone: all r(k) but r(0) are 0, so no prediction; the RESTS are the samples. */
