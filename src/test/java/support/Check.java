@@ -2,8 +2,14 @@
 final class Check {
     private static int wrong = 0;
     private static int right = 0;
+    private static String place = "";
 
     private Check() {
+    }
+
+    /** What is checked from now on is told with this before it. */
+    static void under(String heading) {
+        place = heading + ": ";
     }
 
     static void due(String call, long got, long want) {
@@ -13,7 +19,7 @@ final class Check {
         }
         wrong++;
         if (wrong <= 40) {
-            System.out.println(call + " answered " + got + ", due is " + want);
+            System.out.println(place + call + " answered " + got + ", due is " + want);
         }
     }
 
