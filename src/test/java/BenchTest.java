@@ -28,6 +28,7 @@ public final class BenchTest {
     }
 
     private static void refusals() {
+        Check.under("Promises 36 to 37");
         VoiceHouse x = house();
         int[][] badMix = {{-1, 0, 1, 1}, {0, 3, 1, 1}, {0, 0, 33, 1}, {0, 0, -33, 1}, {0, 0, 1, 33}, {0, 0, 1, -33},
             {0, 0, 2147483647, 0}, {0, 0, -2147483648, 0}};
@@ -51,6 +52,7 @@ public final class BenchTest {
     }
 
     private static void mix() {
+        Check.under(Document.promise(36));
         VoiceHouse x = house();
         Check.due("mix", x.mix(0, 1, 7, -9), 160);
         Check.due("told(3)", x.told(3), 160);
@@ -65,6 +67,7 @@ public final class BenchTest {
     }
 
     private static void mixSaturates() {
+        Check.under(Document.promise(36));
         VoiceHouse x = house();
         long cut = 0;
         x.mix(0, 0, 32, 32);
@@ -95,6 +98,7 @@ public final class BenchTest {
     }
 
     private static void resample() {
+        Check.under(Document.promise(37));
         VoiceHouse x = house();
         for (int c = 0; c < 2; c++) {
             for (int up = 1; up <= 4; up++) {
@@ -127,6 +131,7 @@ public final class BenchTest {
     }
 
     private static void work() {
+        Check.under(Document.promise(38));
         VoiceHouse x = house();
         Check.due("work(0)", x.work(0), NO);
         Check.due("status()", x.status(), BAD);

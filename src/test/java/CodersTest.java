@@ -18,6 +18,7 @@ public final class CodersTest {
     }
 
     private static void newObject() {
+        Check.under(Document.promise(1));
         VoiceHouse x = new VoiceHouse();
         Check.due("status() of a new object", x.status(), 0);
         for (int what = 0; what <= 3; what++) {
@@ -35,6 +36,7 @@ public final class CodersTest {
     }
 
     private static void coder() {
+        Check.under(Document.promise(2));
         VoiceHouse x = new VoiceHouse();
         Check.due("coder(-1)", x.coder(-1), BAD);
         Check.due("coder(2)", x.coder(2), BAD);
@@ -52,6 +54,7 @@ public final class CodersTest {
     }
 
     private static void freshCoder() {
+        Check.under(Document.promise(2));
         VoiceHouse x = new VoiceHouse();
         x.coder(1);
         for (int what = 0; what <= 9; what++) {
@@ -75,6 +78,7 @@ public final class CodersTest {
     }
 
     private static void rate() {
+        Check.under(Document.promise(3));
         VoiceHouse x = new VoiceHouse();
         x.coder(0);
         Check.due("rate(0, 1)", x.rate(0, 1), 0);
@@ -98,6 +102,7 @@ public final class CodersTest {
 
     /** A constant of 10000 becomes 10000 - HALF(10000, 22282) = 10000 - 6800 = 3200 behind its first sample. */
     private static void emphasis() {
+        Check.under(Document.promise(4));
         VoiceHouse x = new VoiceHouse();
         x.coder(0);
         Check.due("emphasis(1)", x.emphasis(1, true), BAD);
@@ -118,6 +123,7 @@ public final class CodersTest {
 
     /** The last sample is kept as it came, by frames without EMPHASIS too; and S counts. */
     private static void emphasisAcrossFrames() {
+        Check.under(Document.promise(4));
         VoiceHouse x = new VoiceHouse();
         x.coder(0);
         x.silence(0, 32769);
@@ -134,6 +140,7 @@ public final class CodersTest {
     }
 
     private static void search() {
+        Check.under(Document.promise(5));
         VoiceHouse x = new VoiceHouse();
         x.coder(0);
         Check.due("search(0, 0, 1)", x.search(0, 0, 1), 0);
@@ -160,6 +167,7 @@ public final class CodersTest {
     }
 
     private static void silence() {
+        Check.under(Document.promise(6));
         VoiceHouse x = new VoiceHouse();
         x.coder(0);
         Check.due("silence(0, 32769)", x.silence(0, 32769), 0);
@@ -185,6 +193,7 @@ public final class CodersTest {
     }
 
     private static void redundancy() {
+        Check.under(Document.promise(7));
         VoiceHouse x = new VoiceHouse();
         x.coder(0);
         Check.due("redundancy(1)", x.redundancy(1, true), BAD);
@@ -219,6 +228,7 @@ public final class CodersTest {
     }
 
     private static void start() {
+        Check.under(Document.promise(8));
         VoiceHouse x = new VoiceHouse();
         x.coder(0);
         Check.due("start(0, 65535)", x.start(0, 65535), 1);
@@ -240,6 +250,7 @@ public final class CodersTest {
     }
 
     private static void startIsRefused() {
+        Check.under(Document.promise(8));
         VoiceHouse x = new VoiceHouse();
         x.coder(0);
         x.feed(0, 7);

@@ -1,5 +1,3 @@
-import java.util.Arrays;
-
 /** Boundary cases of promises 28 to 35: decode, out, state, finding, repair, stage, join, drift. */
 public final class DecoderEdges {
     private static final int MIN = Integer.MIN_VALUE, MAX = Integer.MAX_VALUE;
@@ -202,7 +200,7 @@ public final class DecoderEdges {
         Frames.sealed(x, 0, 0, Frames.silence(0, 9));
         x.decode(0);
         Edge.due(x, 1, "repair", 0);
-        Frames.sealed(x, 0, 2, Frames.with(Arrays.copyOf(Frames.voice(0, 0), 37), 5, 2));
+        Frames.sealed(x, 0, 2, Frames.mending(0, 0));
         x.decode(0);
         Edge.due(x, 3, "repair", 0);
         x.decode(0);
@@ -288,8 +286,8 @@ public final class DecoderEdges {
     }
 
     /**
-     * INDEX 1 of -31 holds a small sample as it is, when nothing excites it: behind frames that are MENDED with p 0 OUT is
-     * that. A SILENCE of PEAK 0 is 0 at once: no steps in OUT, none in y, so the BOUND alone tells how it goes there.
+     * INDEX 1 of -31 holds a small sample as it is, when nothing excites it: behind frames that are MENDED with p 0 OUT
+     * is that. A SILENCE of PEAK 0 is 0 at once: no steps in OUT, none in y, so the BOUND alone tells how it goes on.
      */
     private static void joinBounds() {
         Edge.of(34, "BOUND, 1 .. 32767: what it was.");
@@ -317,7 +315,7 @@ public final class DecoderEdges {
         Frames.sealed(x, 0, 0, Frames.with(Frames.voice(turned, 20 + turned), 6, 1));
         x.decode(0);
         for (int next = 1; next <= 3; next++) {
-            int ahead = Frames.sealed(x, 0, next + 1, Frames.with(Arrays.copyOf(Frames.voice(0, 0), 37), 5, 2));
+            int ahead = Frames.sealed(x, 0, next + 1, Frames.mending(0, 0));
             x.decode(0);
             Edge.due(x, 3, "repair", 0);
             x.drop(0, ahead);

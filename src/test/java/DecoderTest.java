@@ -60,6 +60,7 @@ public final class DecoderTest {
     }
 
     private static void decodeIsRefused() {
+        Check.under(Document.promise(28));
         VoiceHouse x = house();
         Check.due("decode(1)", x.decode(1), BAD);
         Check.due("decode(-1)", x.decode(-1), BAD);
@@ -81,6 +82,7 @@ public final class DecoderTest {
 
     /** G(0) is 4: a pulse becomes 4, 2 and -1, as (4 * -8) >> 5; turned -4, -2 and 1. */
     private static void voiceIsRead() {
+        Check.under(Document.promise(28));
         VoiceHouse x = house();
         Frames.sealed(x, 0, 0, Frames.voice(4, 11));
         Check.due("decode", x.decode(0), 160);
@@ -100,6 +102,7 @@ public final class DecoderTest {
 
     /** Bytes that no encoder makes: SORT 255, RATE 254, b of 255 and 254, j of 63, lag and p with bits above. */
     private static void voiceOddBytes() {
+        Check.under(Document.promise(28));
         VoiceHouse x = house();
         int[] row = Frames.with(Frames.voice(0, 0), 0, 255, 1, 254, 16, 255, 17, 254, 18, 63, 14, 128 + 5, 15, 248);
         Frames.sealed(x, 0, 0, row);
@@ -120,6 +123,7 @@ public final class DecoderTest {
 
     /** p of 7 on what is behind: (35 * a) >> 5; within the part the lag of 20 goes round. */
     private static void voicePitch() {
+        Check.under(Document.promise(28));
         VoiceHouse x = house();
         Frames.sealed(x, 0, 0, Frames.with(Frames.voice(0, 0), 28, 0, 33, 24));
         x.decode(0);
@@ -143,6 +147,7 @@ public final class DecoderTest {
 
     /** INDEX 1 of -31: k is -31744; y(n) = e(n) + HALF(y(n - 1), 31744), for V(0) is the sample before. */
     private static void voiceIndexes() {
+        Check.under(Document.promise(28));
         VoiceHouse x = house();
         Frames.sealed(x, 0, 0, Frames.with(Frames.voice(0, 20), 6, 0, 18, 24));
         x.decode(0);
@@ -176,6 +181,7 @@ public final class DecoderTest {
     }
 
     private static void silenceIsRead() {
+        Check.under(Document.promise(28));
         VoiceHouse x = house();
         x.start(0, 500);
         Frames.sealed(x, 0, 500, Frames.with(Frames.voice(0, 20), 6, 40));
@@ -199,6 +205,7 @@ public final class DecoderTest {
     }
 
     private static void lateAndFirst() {
+        Check.under(Document.promise(28));
         VoiceHouse x = house();
         x.start(0, 100);
         Frames.sealed(x, 0, 99, Frames.voice(0, 0));
@@ -218,6 +225,7 @@ public final class DecoderTest {
     }
 
     private static void labelsWrap() {
+        Check.under(Document.promise(28));
         VoiceHouse x = house();
         x.start(0, 65535);
         Frames.sealed(x, 0, 0, Frames.with(mendingVoice(), 34, 77, 35, 0));
@@ -244,6 +252,7 @@ public final class DecoderTest {
     }
 
     private static void findings() {
+        Check.under(Document.promise(28));
         VoiceHouse x = house();
         x.lose(0, Frames.sealed(x, 0, 0, Frames.voice(0, 0)));
         found("no ROW", x, 1);
@@ -283,6 +292,7 @@ public final class DecoderTest {
 
     /** The first that is met: no looking ahead. */
     private static void findingsInOrder() {
+        Check.under(Document.promise(28));
         Check.due("shorts of five", firstFinding(true, 1, 0, 28, 0, 0), 2);
         Check.due("no HEAD before SUM", firstFinding(false, 1, 0, 28, 0, 0), 3);
         Check.due("SUM before SIZE", firstFinding(false, 1, 0, 128, 0, 0, 0, 0), 4);
@@ -328,6 +338,7 @@ public final class DecoderTest {
     }
 
     private static void bytesBehindAreNotLookedAt() {
+        Check.under(Document.promise(28));
         VoiceHouse x = house();
         int[] row = Frames.with(Arrays.copyOf(Frames.voice(4, 10), 50), 2, 30, 5, 3);
         Frames.sealed(x, 0, 0, row);
@@ -338,6 +349,7 @@ public final class DecoderTest {
 
     /** With INDEXES 0 the sample is the excitation: 28, 20, 12, 4, 0 of 32 of what is LAG before. */
     private static void repeated() {
+        Check.under(Document.promise(28));
         VoiceHouse x = house();
         Frames.sealed(x, 0, 0, Frames.with(Frames.voice(0, 20), 29, 20, 33, 40));
         x.decode(0);
@@ -372,6 +384,7 @@ public final class DecoderTest {
 
     /** RATE at first is that of coder(), whatever rate() says. */
     private static void repeatedAtFirst() {
+        Check.under(Document.promise(28));
         VoiceHouse x = new VoiceHouse();
         x.coder(1);
         x.rate(0, 0);
@@ -387,6 +400,7 @@ public final class DecoderTest {
     }
 
     private static void mended() {
+        Check.under(Document.promise(28));
         VoiceHouse x = house();
         Frames.sealed(x, 0, 0, Frames.with(Frames.voice(0, 20), 29, 20, 33, 40));
         x.decode(0);
@@ -411,6 +425,7 @@ public final class DecoderTest {
 
     /** MENDED frames count as REPAIRED for the strength of a REPEATED one behind them. */
     private static void notMended() {
+        Check.under(Document.promise(28));
         VoiceHouse x = house();
         Frames.sealed(x, 0, 0, Frames.with(Frames.voice(0, 20), 29, 20, 33, 40));
         x.decode(0);
@@ -431,6 +446,7 @@ public final class DecoderTest {
     }
 
     private static void aheadIsCounted() {
+        Check.under(Document.promise(28));
         VoiceHouse x = house();
         Frames.sealed(x, 0, 1, Frames.with(mendingVoice(), 2, 27));
         x.decode(0);
@@ -448,6 +464,7 @@ public final class DecoderTest {
     }
 
     private static void out() {
+        Check.under(Document.promise(29));
         VoiceHouse x = house();
         Check.due("out() before decode()", x.out(0, 0), NO);
         Check.due("status()", x.status(), BAD);
@@ -463,6 +480,7 @@ public final class DecoderTest {
     }
 
     private static void state() {
+        Check.under(Document.promise(30));
         VoiceHouse x = house();
         Frames.sealed(x, 0, 0, Frames.with(Frames.voice(38, 38), 13, 41, 29, 100));
         x.decode(0);
@@ -483,6 +501,7 @@ public final class DecoderTest {
     }
 
     private static void findingAndRepair() {
+        Check.under("Promises 31 to 32");
         VoiceHouse x = house();
         Check.due("finding(1)", x.finding(1), BAD);
         Check.due("repair(1)", x.repair(1), BAD);
@@ -499,6 +518,7 @@ public final class DecoderTest {
     }
 
     private static void stageIsRefused() {
+        Check.under(Document.promise(33));
         VoiceHouse x = house();
         int[][] bad = {{1, 0, 0}, {-1, 0, 0}, {0, -1, 0}, {0, 4, 0}, {0, 0, -1}, {0, 0, 7}, {0, 4, 5}};
         for (int[] b : bad) {
@@ -517,6 +537,7 @@ public final class DecoderTest {
 
     /** G(51) >> 4 is 1792; draws from 1 on, and it draws in a SILENCE too, where GAIN is 0. */
     private static void noise() {
+        Check.under(Document.promise(33));
         VoiceHouse x = house();
         VoiceHouse plain = house();
         x.stage(0, 0, 1);
@@ -549,6 +570,7 @@ public final class DecoderTest {
 
     /** 4, 2, -1: less a quarter, rounded: HALF(4, 8192) = 1, HALF(2, 8192) = 1, HALF(-1, 8192) = 0. */
     private static void tilt() {
+        Check.under(Document.promise(33));
         VoiceHouse x = house();
         x.stage(0, 3, 2);
         Frames.sealed(x, 0, 0, Frames.voice(0, 38));
@@ -564,6 +586,7 @@ public final class DecoderTest {
 
     /** HALF(c, 6554) is a fifth. LAG 40: each part's pulses come again, a fifth as high, in the next one. */
     private static void comb() {
+        Check.under(Document.promise(33));
         VoiceHouse x = house();
         x.stage(0, 0, 3);
         int[] row = Frames.voice(0, 20);
@@ -593,6 +616,7 @@ public final class DecoderTest {
 
     /** HALF(o, 22282) is 0.68 of it: 4 gives 3; 2 and 3 give 5, 3; -1 and 3 give 2, 1; then 1 for ever. */
     private static void emph() {
+        Check.under(Document.promise(33));
         VoiceHouse x = house();
         x.stage(0, 1, 4);
         Frames.sealed(x, 0, 0, Frames.voice(0, 38));
@@ -607,6 +631,7 @@ public final class DecoderTest {
     }
 
     private static void pathInOrder() {
+        Check.under(Document.promise(33));
         VoiceHouse x = house();
         for (int place = 0; place < 4; place++) {
             x.stage(0, place, 4 - place);
@@ -634,6 +659,7 @@ public final class DecoderTest {
     }
 
     private static void stageIsNew() {
+        Check.under(Document.promise(33));
         VoiceHouse x = house();
         x.stage(0, 0, 4);
         Frames.sealed(x, 0, 0, Frames.voice(0, 38));
@@ -645,6 +671,7 @@ public final class DecoderTest {
     }
 
     private static void joinIsRefused() {
+        Check.under(Document.promise(34));
         VoiceHouse x = house();
         Check.due("join(0, 0)", x.join(0, 0), BAD);
         Check.due("join(0, 32768)", x.join(0, 32768), BAD);
@@ -656,6 +683,7 @@ public final class DecoderTest {
 
     /** It stands in TRACE where this frame or the one before was REPAIRED, behind the filters. */
     private static void join() {
+        Check.under(Document.promise(34));
         VoiceHouse x = house();
         Frames.sealed(x, 0, 0, Frames.voice(38, 38));
         x.decode(0);
@@ -675,6 +703,7 @@ public final class DecoderTest {
 
     /** OUT ends high by its filter; without it the next frame begins low: that step is cut into steps of B. */
     private static void joinLooksAtSteps() {
+        Check.under(Document.promise(34));
         for (int bound : new int[] {1, 500, 5000}) {
             VoiceHouse x = house();
             x.join(0, bound);
@@ -716,6 +745,7 @@ public final class DecoderTest {
     }
 
     private static void drift() {
+        Check.under(Document.promise(35));
         VoiceHouse x = house();
         Check.due("drift(0, 2)", x.drift(0, 2), BAD);
         Check.due("drift(0, -2)", x.drift(0, -2), BAD);
@@ -747,6 +777,7 @@ public final class DecoderTest {
 
     /** Without loss the decoder's STATE is the COPY, and OUT what the COPY heard. */
     private static void encoderAndDecoderAgree() {
+        Check.under(Document.promise(28));
         for (int rate = 0; rate < 2; rate++) {
             VoiceHouse x = new VoiceHouse();
             x.coder(rate);

@@ -36,14 +36,9 @@ public final class DecodingEdges {
         Edge.endTerms(Document.LINE);
     }
 
-    /** VOICE with two bytes of REDUNDANCY, and room for a SUM. */
-    private static int[] mending(int lag, int p) {
-        return Frames.with(Arrays.copyOf(Frames.voice(0, 20), 37), 5, 2, 34, lag, 35, p);
-    }
-
     private static void late() {
-        Edge.of(Document.LINE, "frames whose LABEL is before NEXT (LABEL less NEXT, modulo 65536, is 32768 or more) go: they are "
-            + "LATE.");
+        Edge.of(Document.LINE, "frames whose LABEL is before NEXT (LABEL less NEXT, modulo 65536, is 32768 or more) "
+            + "go: they are LATE.");
         int[][] cases = {{100, 100 + 32767, 0}, {100, 100 + 32768, 1}, {100, 99, 1}, {100, 0, 1}, {100, 65535, 1},
             {100, 101, 0}, {0, 32767, 0}, {0, 32768, 1}, {0, 65535, 1}, {0, 1, 0}, {32768, 65535, 0}, {32768, 0, 1},
             {32768, 32767, 1}};
@@ -134,12 +129,9 @@ public final class DecodingEdges {
             // the NUMBER in its HEAD is another one
             Frames.sealed(x, 0, label, Frames.with(Frames.silence(1, 256), 3, 1, 4, 2));
             Edge.due(x, 320, "decode", 0);
-            long z = label;
+            int[] draws = Frames.draws(label, 320);
             for (int n = 0; n < 320; n++) {
-                z = (z * 1103515245L + 12345L) % (1L << 31);
-                if (n % 40 == 39 || n == 0) {
-                    Edge.due(x, z / 65536 % 256 - 128, "out", 0, n);
-                }
+                Edge.told(x, draws[n], "out", 0, n);
             }
             Edge.due(x, 40, "state", 0, 1, 3, 0);
         }
@@ -196,7 +188,7 @@ public final class DecodingEdges {
             x.feed(0, 3);
             Edge.due(x, 480 - size, "decode", 0);
             // nor does that of the frame that mends
-            Frames.sealed(x, 0, 5, Frames.with(mending(0, 0), 1, rate));
+            Frames.sealed(x, 0, 5, Frames.with(Frames.mending(0, 0), 1, rate));
             Edge.due(x, 480 - size, "decode", 0);
             Edge.due(x, 3, "repair", 0);
         }
@@ -211,8 +203,8 @@ public final class DecodingEdges {
     }
 
     private static void mended() {
-        Edge.of(Document.LINE, "and has two bytes of REDUNDANCY or more, MENDED: LAG is 20 and the lowest seven bits of the first "
-            + "one, A is 5 times the lowest three of the second one;");
+        Edge.of(Document.LINE, "and has two bytes of REDUNDANCY or more, MENDED: LAG is 20 and the lowest seven bits "
+            + "of the first one, A is 5 times the lowest three of the second one;");
         int[][] cases = {{20, 7}, {20 + 128, 7 + 248}, {20, 1}, {20, 0}, {20, 8}, {0, 7}, {127, 7}, {255, 255}};
         for (int[] one : cases) {
             VoiceHouse x = spoken();
@@ -220,7 +212,7 @@ public final class DecodingEdges {
             for (int k = 0; k < 160; k++) {
                 h[k] = x.state(0, 1, 0, k);
             }
-            Frames.sealed(x, 0, 2, mending(one[0], one[1]));
+            Frames.sealed(x, 0, 2, Frames.mending(one[0], one[1]));
             x.decode(0);
             int lag = 20 + one[0] % 128;
             Edge.due(x, 3, "repair", 0);
@@ -229,12 +221,12 @@ public final class DecodingEdges {
                 // of each PART what is LAG before its begin, going round
                 int begin = n - n % 40;
                 h[n] = Math.floorDiv(5 * (one[1] % 8) * h[begin - lag + (n - begin) % lag], 32);
-                Edge.due(x, h[n], "state", 0, 1, 0, n - 160);
+                Edge.told(x, h[n], "state", 0, 1, 0, n - 160);
             }
             Edge.due(x, 1, "count", 0, 1);
         }
         VoiceHouse x = spoken();
-        Frames.sealed(x, 0, 2, Frames.with(Arrays.copyOf(mending(55, 3), 64), 5, 30));
+        Frames.sealed(x, 0, 2, Frames.with(Arrays.copyOf(Frames.mending(55, 3), 64), 5, 30));
         x.decode(0);
         Edge.due(x, 3, "repair", 0);
         Edge.due(x, 75, "state", 0, 1, 3, 0);
@@ -247,10 +239,11 @@ public final class DecodingEdges {
     }
 
     private static void mendedAcrossTheWrap() {
-        Edge.of(Document.LINE, "if the first frame in the LINE with the LABEL NEXT and 1 (modulo 65536), which stays there, is OPENED");
+        Edge.of(Document.LINE, "if the first frame in the LINE with the LABEL NEXT and 1 (modulo 65536), which stays "
+            + "there, is OPENED");
         VoiceHouse x = Scene.coder(0);
         x.start(0, 65535);
-        Frames.sealed(x, 0, 0, mending(77, 0));
+        Frames.sealed(x, 0, 0, Frames.mending(77, 0));
         x.decode(0);
         Edge.due(x, 3, "repair", 0);
         Edge.due(x, 97, "state", 0, 1, 3, 0);
@@ -261,7 +254,7 @@ public final class DecodingEdges {
         // 2 behind is not 1 behind
         VoiceHouse y = Scene.coder(0);
         y.start(0, 65535);
-        Frames.sealed(y, 0, 1, mending(77, 0));
+        Frames.sealed(y, 0, 1, Frames.mending(77, 0));
         y.decode(0);
         Edge.due(y, 2, "repair", 0);
         y.decode(0);
@@ -272,7 +265,7 @@ public final class DecodingEdges {
         Edge.of(Document.LINE, "and has two bytes of REDUNDANCY or more, MENDED");
         for (int spare = 0; spare <= 3; spare++) {
             VoiceHouse x = Scene.coder(0);
-            Frames.sealed(x, 0, 1, Frames.with(mending(77, 7), 5, spare));
+            Frames.sealed(x, 0, 1, Frames.with(Frames.mending(77, 7), 5, spare));
             x.decode(0);
             Edge.due(x, spare < 2 ? 2 : 3, "repair", 0);
             Edge.due(x, spare < 2 ? 40 : 97, "state", 0, 1, 3, 0);
@@ -282,7 +275,7 @@ public final class DecodingEdges {
         // the first with that LABEL alone is looked at
         VoiceHouse x = Scene.coder(0);
         Frames.sealed(x, 0, 1, Frames.voice(0, 20));
-        Frames.sealed(x, 0, 1, mending(77, 7));
+        Frames.sealed(x, 0, 1, Frames.mending(77, 7));
         x.decode(0);
         Edge.due(x, 2, "repair", 0);
     }
@@ -291,18 +284,8 @@ public final class DecodingEdges {
         Edge.of(Document.LINE, "its BODY read, too, without FINDING (one there counts, but is not told by finding())");
         for (int finding = 1; finding <= 6; finding++) {
             VoiceHouse x = Scene.coder(0);
-            int i = Frames.sealed(x, 0, 1, mending(77, 7));
-            switch (finding) {
-                case 1 -> x.lose(0, i);
-                case 2 -> x.shorts(0, i);
-                case 3 -> x.cut(0, i, 5);
-                case 4 -> x.damage(0, i, 34, 1);
-                case 5 -> x.damage(0, i, 2, 128);
-                default -> x.damage(0, i, 2, 27 ^ 28);
-            }
-            if (finding > 4) {
-                x.resum(0, i);
-            }
+            int i = Frames.sealed(x, 0, 1, Frames.mending(77, 7));
+            Frames.spoil(x, 0, i, finding);
             x.decode(0);
             Edge.due(x, 2, "repair", 0);
             Edge.due(x, 7, "finding", 0);
@@ -322,31 +305,29 @@ public final class DecodingEdges {
 
     /** The LAG of 147 takes each PART from the frame before, or nearly: so much is left for each A to show. */
     private static void repeated() {
-        Edge.of(Document.LINE, "REPEATED: LAG as it was, A is 28, 20, 12, 4, then 0, by how many frames just before were REPAIRED.");
-        VoiceHouse x = Scene.coder(0);
-        int[] row = Frames.with(Frames.voice(0, 20), 29, 127);
-        for (int part = 0; part < 4; part++) {
-            row = Frames.with(row, 18 + 5 * part, 51);
-        }
-        Frames.sealed(x, 0, 0, row);
-        x.decode(0);
-        int[] h = new int[7 * 160];
-        for (int k = 0; k < 160; k++) {
-            h[k] = x.out(0, k);
-        }
-        int[] a = {28, 20, 12, 4, 0, 0};
+        Edge.of(Document.LINE, "REPEATED: LAG as it was, A is 28, 20, 12, 4, then 0, by how many frames just before "
+            + "were REPAIRED.");
+        int[] a = {28, 20, 12, 4, 0, 0, 0};
+        int[] row = Frames.with(Frames.voice(0, 20), 18, 51, 23, 51, 28, 51, 29, 127, 33, 51);
+        int[] h = new int[160 + 160 * a.length];
         for (int frame = 0; frame < a.length; frame++) {
+            VoiceHouse x = Scene.coder(0);
+            Frames.sealed(x, 0, 0, row);
             x.decode(0);
-            boolean some = false;
+            for (int k = 0; k < 160; k++) {
+                h[k] = x.out(0, k);
+            }
+            for (int before = 0; before <= frame; before++) {
+                x.decode(0);
+            }
+            int greatest = 0;
             for (int n = 0; n < 160; n++) {
                 int at = 160 + 160 * frame + n;
                 h[at] = Math.floorDiv(a[frame] * h[at - 147], 32);
-                some |= h[at - 147] > 32;
-                if (n % 40 < 4 || n % 40 == 13 || n % 40 == 34) {
-                    Edge.due(x, h[at], "state", 0, 1, 0, n);
-                }
+                greatest = Math.max(greatest, h[at - 147]);
+                Edge.told(x, h[at], "state", 0, 1, 0, n);
             }
-            Check.isTrue("something to repeat", frame > 4 || some);
+            Check.isTrue("enough to repeat, frame " + frame, frame > 4 || greatest > 100);
             Edge.due(x, 147, "state", 0, 1, 3, 0);
         }
     }
@@ -355,7 +336,7 @@ public final class DecodingEdges {
     private static void repeatedBehindMended() {
         Edge.of(Document.LINE, "by how many frames just before were REPAIRED.");
         VoiceHouse x = spoken();
-        Frames.sealed(x, 0, 2, mending(20, 7));
+        Frames.sealed(x, 0, 2, Frames.mending(20, 7));
         x.decode(0);
         Edge.due(x, 3, "repair", 0);
         int before = x.state(0, 1, 0, 120);
@@ -388,8 +369,8 @@ public final class DecodingEdges {
     }
 
     private static void repeatedKeeps() {
-        Edge.of(Document.LINE, "For each PART e(n) = S((A a(n)) >> 5), BEHIND LAG; H, SYNTHESIS as above, with the INDEXES as they "
-            + "were.");
+        Edge.of(Document.LINE, "For each PART e(n) = S((A a(n)) >> 5), BEHIND LAG; H, SYNTHESIS as above, with the "
+            + "INDEXES as they were.");
         VoiceHouse x = Scene.coder(0);
         Frames.sealed(x, 0, 0, Frames.with(Frames.voice(38, 38), 6, 1, 13, 63, 29, 0));
         x.decode(0);
@@ -412,7 +393,7 @@ public final class DecodingEdges {
         Frames.sealed(y, 0, 0, Frames.with(Frames.voice(4, 4), 29, 20, 33, 51));
         y.decode(0);
         Edge.due(y, 1, "saturations");
-        Frames.sealed(y, 0, 2, mending(20, 7));
+        Frames.sealed(y, 0, 2, Frames.mending(20, 7));
         y.decode(0);
         Edge.due(y, 32767, "state", 0, 1, 0, 5);
         Edge.due(y, 31360, "state", 0, 1, 0, 4);
@@ -425,7 +406,7 @@ public final class DecodingEdges {
         VoiceHouse x = Scene.coder(0);
         VoiceHouse plain = Scene.coder(0);
         x.stage(0, 0, 1);
-        long z = 1;
+        int[] draws = Frames.draws(1, 5 * 160);
         // GAINS of 14, 16, 28672, then SILENCE, in which it draws, too
         int[] gains = {14, 16, 28672, 0, 28672};
         int[] js = {7, 8, 51, 0, 51};
@@ -435,13 +416,9 @@ public final class DecodingEdges {
             Frames.sealed(plain, 0, label, row);
             x.decode(0);
             plain.decode(0);
-            for (int n = 0; n < 160; n++) {
-                z = (z * 1103515245L + 12345L) % (1L << 31);
-                int draw = (int) (z / 65536 % 256) - 128;
-                int v = plain.out(0, n) + Math.floorDiv(draw * (gains[label] / 16), 256);
-                if (n % 5 == 0) {
-                    Edge.due(x, Math.max(-32768, Math.min(32767, v)), "out", 0, n);
-                }
+            for (int n = 0; n < 160; n += 3) {
+                int v = plain.out(0, n) + Math.floorDiv(draws[160 * label + n] * (gains[label] / 16), 256);
+                Edge.told(x, Math.max(-32768, Math.min(32767, v)), "out", 0, n);
             }
         }
     }
@@ -482,30 +459,34 @@ public final class DecodingEdges {
 
     /** VOICE tells the LAG, the loud SILENCE behind it leaves it: every sample has something LAG before it. */
     private static void comb() {
-        Edge.of(Document.LINE, "3 COMB: TILT, and of what comes of that S(y(n) + HALF(c(n - LAG), 6554)), c being what it gave (its "
-            + "latest 160 are kept), LAG that of the STATE behind this frame.");
+        Edge.of(Document.LINE, "3 COMB: TILT, and of what comes of that S(y(n) + HALF(c(n - LAG), 6554)), c being what "
+            + "it gave (its latest 160 are kept), LAG that of the STATE behind this frame.");
+        int[] lags = {40, 147, 147, 20, 20};
         for (int rate = 0; rate < 2; rate++) {
-            VoiceHouse x = Scene.coder(0);
-            VoiceHouse tilted = Scene.coder(0);
-            x.stage(0, 0, 3);
-            tilted.stage(0, 0, 2);
+            int[][] rows = new int[5][];
+            for (int label = 0; label < 5; label++) {
+                rows[label] = label % 2 == 0 ? Frames.silence(rate, 20000)
+                    : Frames.with(Frames.voice(0, 20), 1, rate, 18, 40, 33, 44, 29, lags[label] - 20);
+            }
             int size = 160 + 160 * rate;
             long[] c = new long[5 * size];
-            int[] lags = {40, 147, 147, 20, 20};
+            VoiceHouse x = Scene.coder(0);
+            x.stage(0, 0, 3);
             for (int label = 0; label < 5; label++) {
-                boolean voice = label % 2 == 1;
-                int[] row = voice ? Frames.with(Frames.voice(0, 20), 1, rate, 18, 40, 33, 44, 29, lags[label] - 20)
-                    : Frames.silence(rate, 20000);
-                Frames.sealed(x, 0, label, row);
-                Frames.sealed(tilted, 0, label, row);
+                VoiceHouse tilted = Scene.coder(0);
+                tilted.stage(0, 0, 2);
+                for (int before = 0; before <= label; before++) {
+                    Frames.sealed(tilted, 0, before, rows[before]);
+                    tilted.decode(0);
+                }
+                Frames.sealed(x, 0, label, rows[label]);
                 x.decode(0);
-                tilted.decode(0);
                 for (int n = 0; n < size; n++) {
                     int at = label * size + n;
                     long back = at < lags[label] ? 0 : c[at - lags[label]];
                     c[at] = tilted.out(0, n) + Math.floorDiv(back * 6554 + 16384, 32768L);
                     if (n % 9 == 0 || n == size - 1) {
-                        Edge.due(x, c[at], "out", 0, n);
+                        Edge.told(x, c[at], "out", 0, n);
                     }
                 }
             }
@@ -525,7 +506,7 @@ public final class DecodingEdges {
             c[n] = x.out(0, n);
         }
         int came = 0;
-        Frames.sealed(x, 0, 2, mending(127, 0));
+        Frames.sealed(x, 0, 2, Frames.mending(127, 0));
         x.decode(0);
         Edge.due(x, 3, "repair", 0);
         for (int n = 0; n < 100; n++) {
@@ -569,8 +550,8 @@ public final class DecodingEdges {
             int high = 0, low = 0;
             for (int n = 0; n < 160; n++) {
                 int came = plain.out(0, n), before = n == 0 ? 0 : plain.out(0, n - 1), given = n == 0 ? 0 : y[n - 1];
-                int[] sums = {came - Math.floorDiv(before * 8192 + 16384, 32768), came + Math.floorDiv(given * 22282 + 16384, 32768)};
-                int v = sums[kind == 4 ? 1 : 0];
+                int v = kind == 4 ? came + Math.floorDiv(given * 22282 + 16384, 32768)
+                    : came - Math.floorDiv(before * 8192 + 16384, 32768);
                 high += v > 32767 ? 1 : 0;
                 low += v < -32768 ? 1 : 0;
                 v = Math.max(-32768, Math.min(32767, v));
@@ -590,8 +571,8 @@ public final class DecodingEdges {
     }
 
     private static void joined() {
-        Edge.of(Document.LINE, "if this frame or the one decoded before it was REPAIRED: B is the greatest of BOUND (2000 at first), "
-            + "of the steps between neighbours in y, and of those in OUT as it is;");
+        Edge.of(Document.LINE, "if this frame or the one decoded before it was REPAIRED: B is the greatest of BOUND "
+            + "(2000 at first), of the steps between neighbours in y, and of those in OUT as it is;");
         VoiceHouse x = spoken();
         boolean[] repaired = {false, true, false, false, true, true, false, false};
         for (int label = 1; label < 8; label++) {
@@ -608,7 +589,7 @@ public final class DecodingEdges {
             VoiceHouse y = Scene.coder(0);
             Frames.sealed(y, 0, 0, Frames.with(Frames.voice(38, 38), 33, one[0]));
             y.decode(0);
-            Frames.sealed(y, 0, 2, mending(20, 0));
+            Frames.sealed(y, 0, 2, Frames.mending(20, 0));
             y.decode(0);
             Edge.due(y, one[1], "out", 0, 0);
             Edge.due(y, 0, "out", 0, 1);
@@ -617,13 +598,13 @@ public final class DecodingEdges {
 
     /** OUT is a held 16 or so; y has 4, 2, -1, 0 .. and steps of 4: B is 4, though BOUND is 1 and OUT has none. */
     private static void joinedByStepsOfY() {
-        Edge.of(Document.LINE, "from the first sample on each becomes the nearest to it that is within B of what the one before has "
-            + "become");
+        Edge.of(Document.LINE, "from the first sample on each becomes the nearest to it that is within B of what the "
+            + "one before has become");
         VoiceHouse x = Scene.coder(0);
         Frames.sealed(x, 0, 0, Frames.with(Frames.voice(0, 20), 6, 1));
         x.decode(0);
         for (int next = 1; next <= 3; next++) {
-            Frames.sealed(x, 0, next + 1, mending(20, 0));
+            Frames.sealed(x, 0, next + 1, Frames.mending(20, 0));
             x.decode(0);
             x.drop(0, 0);
         }
@@ -649,7 +630,7 @@ public final class DecodingEdges {
             Frames.sealed(x, 0, 0, Frames.with(Frames.voice(38, 38), 33, 40));
             x.decode(0);
             Edge.due(x, 6144, "out", 0, 159);
-            Frames.sealed(x, 0, 2, mending(20, 0));
+            Frames.sealed(x, 0, 2, Frames.mending(20, 0));
             x.decode(0);
             Edge.due(x, 6144 - Math.max(4096, bound), "out", 0, 0);
             Edge.due(x, 0, "out", 0, 1);
@@ -661,13 +642,13 @@ public final class DecodingEdges {
         }
     }
 
-    /** An even pulse, turned, at 0 and an odd one at 1: -4096, 2048, 3072, -1024; of all steps the first is the greatest. */
+    /** An even pulse, turned, at 0 and an odd one at 1: -4096, 2048, 3072, -1024: the first step is the greatest. */
     private static void joinedByFirstSteps() {
         Edge.of(Document.LINE, "of the steps between neighbours in y, and of those in OUT as it is;");
         VoiceHouse x = Scene.coder(0);
         Frames.sealed(x, 0, 0, Frames.with(Frames.voice(38, 38), 29, 20, 33, 36));
         x.decode(0);
-        Frames.sealed(x, 0, 2, Frames.with(mending(20, 7), 16, 1, 17, 0, 18, 40));
+        Frames.sealed(x, 0, 2, Frames.with(Frames.mending(20, 7), 16, 1, 17, 0, 18, 40));
         x.decode(0);
         Edge.due(x, 3, "repair", 0);
         int last = x.out(0, 159);
@@ -677,12 +658,13 @@ public final class DecodingEdges {
         Edge.due(x, 2048, "out", 0, 1);
         // OUT begins so, and ends with 4096, 6144; 120 before the next frame it has -4096, of which 5 of 32 are taken
         VoiceHouse y = Scene.coder(0);
-        Frames.sealed(y, 0, 0, Frames.with(Frames.voice(38, 38), 16, 1, 17, 0, 18, 40, 21, 1, 22, 20, 23, 40, 29, 100, 33, 40));
+        int[] row = Frames.with(Frames.voice(38, 38), 16, 1, 17, 0, 18, 40, 21, 1, 22, 20, 23, 40, 29, 100, 33, 40);
+        Frames.sealed(y, 0, 0, row);
         y.decode(0);
         Edge.due(y, -4096, "out", 0, 0);
         Edge.due(y, 2048, "out", 0, 1);
         Edge.due(y, 6144, "out", 0, 159);
-        Frames.sealed(y, 0, 2, mending(100, 1));
+        Frames.sealed(y, 0, 2, Frames.mending(100, 1));
         y.decode(0);
         Edge.due(y, -640, "state", 0, 1, 0, 0);
         Edge.due(y, 6144 - 6144, "out", 0, 0);
@@ -707,15 +689,15 @@ public final class DecodingEdges {
             y.drift(0, d);
             y.decode(0);
             Edge.due(y, 6144, "out", 0, 159 + d);
-            Frames.sealed(y, 0, 2, mending(20, 0));
+            Frames.sealed(y, 0, 2, Frames.mending(20, 0));
             y.decode(0);
             Edge.due(y, 2048, "out", 0, 0);
         }
     }
 
     private static void drift() {
-        Edge.of(Document.LINE, "if DRIFT is due: 1: behind sample N / 2 - 1 the mean of it and the next one (their sum >> 1) is put in; "
-            + "-1: sample N / 2 goes; none is due then.");
+        Edge.of(Document.LINE, "if DRIFT is due: 1: behind sample N / 2 - 1 the mean of it and the next one (their sum "
+            + ">> 1) is put in; -1: sample N / 2 goes; none is due then.");
         for (int rate = 0; rate < 2; rate++) {
             int size = 160 + 160 * rate, middle = size / 2, end = size / 4 - 2;
             for (int turned = 0; turned < 2; turned++) {

@@ -20,6 +20,7 @@ public final class EncodingEdges {
         pulseTies();
         gains();
         excited();
+        synthesis();
         history();
         copyOfVoice();
         copyOfSilence();
@@ -42,8 +43,8 @@ public final class EncodingEdges {
 
     /** HALF(10000, 22282) is 6800, HALF(-10000, 22282) is -6800. */
     private static void emphasis() {
-        Edge.of(Document.ENCODING, "with EMPHASIS x(n) becomes S(x(n) - HALF(x(n - 1) as it came, 22282)), x(-1) being the last sample "
-            + "of the FRAME before, as it came (0).");
+        Edge.of(Document.ENCODING, "with EMPHASIS x(n) becomes S(x(n) - HALF(x(n - 1) as it came, 22282)), x(-1) being "
+            + "the last sample of the FRAME before, as it came (0).");
         VoiceHouse x = Scene.coder(0);
         x.emphasis(0, true);
         x.silence(0, 32769);
@@ -85,10 +86,11 @@ public final class EncodingEdges {
     }
 
     private static void level() {
-        Edge.of(Document.ENCODING, "PEAK is the greatest size of these x(n). If it is below LEVEL (0 at first), the frame is SILENCE, "
-            + "else VOICE.");
-        int[][] cases = {{0, 0, 1}, {0, 1, 2}, {1, 1, 1}, {-1, 1, 1}, {-1, 2, 2}, {99, 100, 2}, {100, 100, 1}, {-99, 100, 2},
-            {-100, 100, 1}, {32767, 32767, 1}, {32767, 32768, 2}, {-32768, 32768, 1}, {-32768, 32769, 2}};
+        Edge.of(Document.ENCODING, "PEAK is the greatest size of these x(n). If it is below LEVEL (0 at first), the "
+            + "frame is SILENCE, else VOICE.");
+        int[][] cases = {{0, 0, 1}, {0, 1, 2}, {1, 1, 1}, {-1, 1, 1}, {-1, 2, 2}, {99, 100, 2}, {100, 100, 1},
+            {-99, 100, 2}, {-100, 100, 1}, {32767, 32767, 1}, {32767, 32768, 2}, {-32768, 32768, 1},
+            {-32768, 32769, 2}};
         for (int[] one : cases) {
             for (int at : new int[] {0, 77, 159}) {
                 VoiceHouse x = Scene.coder(0);
@@ -125,11 +127,12 @@ public final class EncodingEdges {
     }
 
     /**
-     * Two signals whose r(0) is 2^30 - 1 and 2^33 - 1, to be shifted by 0 and by 3; one 1 more and it is by 1 and by 4. A
-     * shift by one more, or less, gives another INDEX in each of them.
+     * Two signals whose r(0) is 2^30 - 1 and 2^33 - 1, to be shifted by 0 and by 3; one 1 more and it is by 1 and by 4.
+     * A shift by one more, or less, gives another INDEX in each of them.
      */
     private static void shift() {
-        Edge.of(Document.ENCODING, "with the least s, 0 or above, for which r(0) >> s is below 2^30: p(k) = r(k) >> s.");
+        Edge.of(Document.ENCODING, "with the least s, 0 or above, for which r(0) >> s is below 2^30: p(k) = r(k) >> "
+            + "s.");
         for (int more = 0; more < 2; more++) {
             Beside a = new Beside(0).wave(1, 208, 3280, 79).samples(26471, 152, 6, 1, 1, more);
             a.wave(0, 0, 0, 75).encode();
@@ -173,9 +176,10 @@ public final class EncodingEdges {
         indexes("a single 1", new Beside(0).frame(160, 159, 1).x, 0, 0, 0, 0, 0, 0, 0, 0);
     }
 
-    /** n samples of 100, or of 100 and -100 in turn: z is 32768 (n - 1) / n less a thousandth; 32254 of 68, 32261 of 69. */
+    /** n times 100, or 100 and -100 in turn: z is 32768 (n - 1) / n less a thousandth; 32254 of 68, 32261 of 69. */
     private static void greatestIndexes() {
-        Edge.of(Document.ENCODING, "INDEX m is (z + 512) >> 10, but -31 .. 31, the nearest (another number is a SATURATION);");
+        Edge.of(Document.ENCODING, "INDEX m is (z + 512) >> 10, but -31 .. 31, the nearest (another number is a "
+            + "SATURATION);");
         for (int n = 67; n <= 70; n++) {
             VoiceHouse x = new Beside(0).wave(0, 100, 0, n).wave(0, 0, 0, 160 - n).encode().x;
             Edge.due(x, -31, "index", 0, 1);
@@ -187,7 +191,8 @@ public final class EncodingEdges {
     }
 
     private static void predictionEnds() {
-        Edge.of(Document.ENCODING, "if P(0) is not above 0, or the size of P(1) not below P(0): INDEXES m to 8 are 0, that is all.");
+        Edge.of(Document.ENCODING, "if P(0) is not above 0, or the size of P(1) not below P(0): INDEXES m to 8 are 0, "
+            + "that is all.");
         Beside b = new Beside(0).wave(2, 3, 20000, 160).encode();
         b.frame(160, 0, 1, -1, 1, -1, 1, -1, 1, -1, 1, -1);
         indexes("P(1) as great as P(0) at 7", b.x, 26, -8, -8, -8, -16, -21, 0, 0);
@@ -228,6 +233,10 @@ public final class EncodingEdges {
         // the loudest, so that S is met in it
         new Beside(0).wave(3, 2, 32767, 160).encode().wave(0, 32767, 0, 160).encode().wave(1, 2, 32767, 160).encode();
         new Beside(1).wave(3, 9, 32767, 320).encode().wave(3, 2, 32767, 320).encode();
+        // here the b of m = 8, which nothing takes up, meets S, and counts
+        new Beside(0).wave(3, 19, 32767, 92).wave(2, 676, 32767, 228).encode().encode();
+        new Beside(0).wave(4, 10, 32767, 123).wave(3, 6, 32767, 197).encode().encode();
+        new Beside(0).wave(2, 377, 31219, 105).wave(2, 569, 31219, 215).encode().encode();
     }
 
     /** X, a SILENCE of zeros, Y: H is 0 behind the SILENCE, so D alone tells of X in the RESTS of Y. */
@@ -250,7 +259,7 @@ public final class EncodingEdges {
         Check.isTrue("what was before the SILENCE counts", costs[0] != costs[1]);
     }
 
-    /** Impulses p apart: what is p before tells them. In the last PART 143 to 147 are in reach, in the second 20 to 23. */
+    /** Impulses p apart: what is p before tells them; 147 and a few below it are in reach in the last PART alone. */
     private static void lags() {
         Edge.of(Document.ENCODING, "BEHIND a lag L (20 .. 147) is a(n) = H(160 - L + n modulo L), H being the COPY's.");
         for (int p = 141; p <= 150; p++) {
@@ -270,10 +279,11 @@ public final class EncodingEdges {
             }
         }
         Edge.due(new Beside(0).search(1, 0).wave(4, 20, 9000, 160).encode().x, 20, "pick", 0, 1, 0);
-        Edge.of(Document.ENCODING, "NESTED (search 0): of the lags 20, 24, .. 144; then, L being that lag, of L - 3 to L + 3 (20 .. 147).");
-        int[][] nested = {{4, 20, 9000, 0, 1, 20}, {4, 21, 9000, 0, 1, 21}, {4, 143, 9000, 0, 3, 143}, {4, 144, 9000, 0, 3, 144},
-            {4, 147, 9000, 0, 3, 147}, {4, 138, 9000, 1, 0, 22}, {4, 45, 32767, 1, 3, 23}, {3, 29, 200, 0, 3, 145},
-            {3, 98, 200, 1, 1, 146}};
+        Edge.of(Document.ENCODING, "NESTED (search 0): of the lags 20, 24, .. 144; then, L being that lag, of L - 3 to "
+            + "L + 3 (20 .. 147).");
+        int[][] nested = {{4, 20, 9000, 0, 1, 20}, {4, 21, 9000, 0, 1, 21}, {4, 143, 9000, 0, 3, 143},
+            {4, 144, 9000, 0, 3, 144}, {4, 147, 9000, 0, 3, 147}, {4, 138, 9000, 1, 0, 22}, {4, 45, 32767, 1, 3, 23},
+            {3, 29, 200, 0, 3, 145}, {3, 98, 200, 1, 1, 146}};
         for (int[] one : nested) {
             Beside b = new Beside(0);
             for (int frame = 0; frame <= one[3]; frame++) {
@@ -309,9 +319,9 @@ public final class EncodingEdges {
     private static void lagTies() {
         Edge.of(Document.ENCODING, "of several the least lag, then the least p.");
         // frames of the same wave; in the last one, in that PART, another p costs the same, or another lag
-        int[][] ties = {{4, 36, 5, 2, 3, 36, 3}, {4, 12, 5, 2, 3, 96, 6}, {4, 100, 10, 2, 0, 60, 5}, {4, 104, 10, 2, 0, 56, 5},
-            {4, 2, 100, 0, 3, 24, 5}, {4, 2, 128, 1, 0, 22, 6}, {4, 2, 256, 0, 3, 40, 7}, {3, 60, 5, 1, 3, 26, 2},
-            {3, 54, 3, 1, 3, 60, 6}, {3, 67, 20, 0, 2, 53, 3}};
+        int[][] ties = {{4, 36, 5, 2, 3, 36, 3}, {4, 12, 5, 2, 3, 96, 6}, {4, 100, 10, 2, 0, 60, 5},
+            {4, 104, 10, 2, 0, 56, 5}, {4, 2, 100, 0, 3, 24, 5}, {4, 2, 128, 1, 0, 22, 6}, {4, 2, 256, 0, 3, 40, 7},
+            {3, 60, 5, 1, 3, 26, 2}, {3, 54, 3, 1, 3, 60, 6}, {3, 67, 20, 0, 2, 53, 3}};
         for (int[] one : ties) {
             Beside b = new Beside(0).search(1, 0);
             for (int frame = 0; frame <= one[3]; frame++) {
@@ -324,7 +334,8 @@ public final class EncodingEdges {
 
     /** One impulse and zeros: INDEXES 0, no past, so the pulses are all there is. */
     private static void pulseShapes() {
-        Edge.of(Document.ENCODING, "A pulse at a place q has 32 at q, 16 at q + 1, -8 at q + 2, as far as the PART goes;");
+        Edge.of(Document.ENCODING, "A pulse at a place q has 32 at q, 16 at q + 1, -8 at q + 2, as far as the PART "
+            + "goes;");
         for (int rate = 0; rate < 2; rate++) {
             int size = 160 + 160 * rate, sub = size / 4;
             for (int kind = 0; kind < 2; kind++) {
@@ -341,8 +352,8 @@ public final class EncodingEdges {
 
     /** Zeros: without anything to tell, the cheapest pulses are those that the PART's end cuts off. */
     private static void pulsePlaces() {
-        Edge.of(Document.ENCODING, "v(n) is the sum of two, that at an even place and that at an odd one, each with its SIGN (0 as it is, 1 "
-            + "turned).");
+        Edge.of(Document.ENCODING, "v(n) is the sum of two, that at an even place and that at an odd one, each with "
+            + "its SIGN (0 as it is, 1 turned).");
         for (int kind = 0; kind < 2; kind++) {
             Beside b = new Beside(0).search(0, kind).wave(0, 0, 0, 160).encode();
             picks(b.x, 0, 20, 0, 38, 0, 39, 1, 0);
@@ -376,8 +387,8 @@ public final class EncodingEdges {
             Edge.due(c.x, 18, "pick", 0, 0, 2);
             new Beside(1).search(0, kind).frame(320, 5, three);
         }
-        Edge.of(Document.ENCODING, "WHOLE: of all even places, SIGNS, odd places, SIGNS, j the least, of several the first by these in this "
-            + "order.");
+        Edge.of(Document.ENCODING, "WHOLE: of all even places, SIGNS, odd places, SIGNS, j the least, of several the "
+            + "first by these in this order.");
         // 1983 at 3, 641 at 14: alone the even pulse is best at 2, before the greater one; beside an odd one at 14
         int[] two = new int[12];
         two[0] = 1983;
@@ -385,7 +396,10 @@ public final class EncodingEdges {
         picks(new Beside(0).search(0, 1).frame(160, 3, two).x, 0, 20, 0, 14, 0, 3, 0, 32);
         Edge.due(new Beside(0).search(0, 0).frame(160, 3, two).x, 2, "pick", 0, 0, 2);
         // a later pair costs less by a hair
-        picks(new Beside(0).search(0, 1).frame(160, 3, 1126, 0, 0, 0, 0, 0, 0, 0, 0, 0, 1744).x, 0, 20, 0, 12, 0, 13, 0, 30);
+        two = new int[11];
+        two[0] = 1126;
+        two[10] = 1744;
+        picks(new Beside(0).search(0, 1).frame(160, 3, two).x, 0, 20, 0, 12, 0, 13, 0, 30);
         picks(new Beside(0).search(0, 1).frame(160, 27, 162).x, 0, 20, 0, 26, 0, 27, 0, 16);
         picks(new Beside(0).search(0, 1).frame(160, 33, -162).x, 0, 20, 0, 32, 1, 33, 1, 16);
     }
@@ -419,6 +433,26 @@ public final class EncodingEdges {
         Check.isTrue("S is met", b.x.saturations() > 0);
     }
 
+    /**
+     * Behind a frame of INDEXES 0 the V are its last samples, V(6) a 43008 that S cut. The next one has INDEX 8 of 31:
+     * there the second sample, again a cut 43008, meets it as V(7): f is 32767 - 31743, b is 32767 + 992, and cut,
+     * though no V takes it up.
+     */
+    private static void synthesis() {
+        Edge.of(Document.ENCODING, "b = S(V(m - 1) + HALF(f, k(m))); if m is below 8, V(m) becomes b.");
+        VoiceHouse x = Scene.coder(0);
+        Frames.sealed(x, 0, 0, Frames.with(Frames.voice(0, 20), 31, 32, 32, 32, 33, 51));
+        x.decode(0);
+        Edge.due(x, 32767, "state", 0, 1, 1, 6);
+        Edge.due(x, 28672, "state", 0, 1, 1, 7);
+        Edge.due(x, 1, "saturations");
+        Frames.sealed(x, 0, 1, Frames.with(Frames.voice(0, 0), 13, 63, 18, 51));
+        x.decode(0);
+        Edge.due(x, 28672 - 27776, "out", 0, 0);
+        Edge.due(x, 32767 - 31743, "out", 0, 1);
+        Edge.due(x, 3, "saturations");
+    }
+
     private static void history() {
         Edge.of(Document.ENCODING, "H loses its oldest SUB numbers and gets these.");
         Beside b = new Beside(1).wave(4, 37, 9000, 320).encode().rate(0).wave(4, 37, 9000, 160).encode();
@@ -443,10 +477,9 @@ public final class EncodingEdges {
             x.silence(0, 32769);
             x.wave(0, 0, -32768, 0, 160);
             x.encode(0);
-            long z = number;
+            int[] draws = Frames.draws(number, 160);
             for (int n = 0; n < 160; n++) {
-                z = (z * 1103515245L + 12345L) % (1L << 31);
-                Edge.due(x, (z / 65536 % 256 - 128) * 128, "state", 0, 0, 0, n);
+                Edge.due(x, draws[n] * 128, "state", 0, 0, 0, n);
             }
             Edge.due(x, 0, "saturations");
         }
@@ -457,23 +490,20 @@ public final class EncodingEdges {
         for (int k = 0; k < 8; k++) {
             Edge.due(b.x, 0, "state", 0, 0, 2, k);
         }
-        // the first draw of NUMBER 1, SUB of 80: PART by PART, the draws go on
+        // PART by PART of 80 the draws go on: of 320 the latest 160 are in H
         VoiceHouse x = Scene.coder(1);
         x.silence(0, 32769);
         x.wave(0, 0, 256, 0, 320);
         x.encode(0);
-        long z = 0;
-        for (int n = 0; n < 320; n++) {
-            z = (z * 1103515245L + 12345L) % (1L << 31);
-            if (n >= 160) {
-                Edge.due(x, z / 65536 % 256 - 128, "state", 0, 0, 0, n - 160);
-            }
+        int[] draws = Frames.draws(0, 320);
+        for (int n = 160; n < 320; n++) {
+            Edge.due(x, draws[n], "state", 0, 0, 0, n - 160);
         }
     }
 
     private static void head() {
-        Edge.of(Document.ENCODING, "THE FRAME are bytes: SORT (1 VOICE, 2 SILENCE), RATE, how many bytes the BODY has, NUMBER (two, the high "
-            + "one first), how many REDUNDANCY has (these six are its HEAD);");
+        Edge.of(Document.ENCODING, "THE FRAME are bytes: SORT (1 VOICE, 2 SILENCE), RATE, how many bytes the BODY has, "
+            + "NUMBER (two, the high one first), how many REDUNDANCY has (these six are its HEAD);");
         for (int rate = 0; rate < 2; rate++) {
             for (int sort = 1; sort <= 2; sort++) {
                 VoiceHouse x = Scene.coder(rate);
@@ -497,8 +527,8 @@ public final class EncodingEdges {
     }
 
     private static void body() {
-        Edge.of(Document.ENCODING, "BODY: of VOICE each INDEX and 32, then of each PART lag - 20, p, the even place and its SIGN, the odd place "
-            + "less 1 and its SIGN, j; of SILENCE PEAK (two, the high one first);");
+        Edge.of(Document.ENCODING, "BODY: of VOICE each INDEX and 32, then of each PART lag - 20, p, the even place "
+            + "and its SIGN, the odd place less 1 and its SIGN, j; of SILENCE PEAK (two, the high one first);");
         VoiceHouse x = new Beside(0).wave(0, 100, 0, 68).wave(3, 2, 2000, 92).encode().x;
         for (int m = 1; m <= 8; m++) {
             Edge.due(x, x.index(0, m) + 32, "byteOf", 0, 0, 5 + m);
@@ -522,7 +552,8 @@ public final class EncodingEdges {
     }
 
     private static void redundancy() {
-        Edge.of(Document.ENCODING, "REDUNDANCY, if that is on and the frame encoded before was VOICE: lag - 20 and p of that one's last PART;");
+        Edge.of(Document.ENCODING, "REDUNDANCY, if that is on and the frame encoded before was VOICE: lag - 20 and p "
+            + "of that one's last PART;");
         VoiceHouse x = Scene.coder(0);
         x.search(0, 0, 1);
         x.redundancy(0, true);
@@ -582,7 +613,8 @@ public final class EncodingEdges {
     }
 
     private static void numbers() {
-        Edge.of(Document.ENCODING, "NUMBERS go from 0 on, and again behind 65535. It comes to the end of the LINE with its NUMBER as LABEL.");
+        Edge.of(Document.ENCODING, "NUMBERS go from 0 on, and again behind 65535. It comes to the end of the LINE with "
+            + "its NUMBER as LABEL.");
         VoiceHouse x = Scene.coder(0);
         x.start(0, 65535);
         x.feed(0, 5);

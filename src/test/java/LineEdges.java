@@ -43,7 +43,8 @@ public final class LineEdges {
     }
 
     private static void length() {
-        Edge.of(15, "How many bytes, or shorts, the ROW of frame i in the LINE has. BAD: also no such frame; NONE: no ROW.");
+        Edge.of(15, "How many bytes, or shorts, the ROW of frame i in the LINE has. BAD: also no such frame; NONE: no "
+            + "ROW.");
         Edge.noSuchFrame("length");
         Edge.refused(Scene.BUSY, Edge.NONE, "length", 0, LOST);
         VoiceHouse x = Scene.BUSY.get();
@@ -178,8 +179,8 @@ public final class LineEdges {
     }
 
     private static void damageOfSharedRows() {
-        Edge.of(20, "Number k of its ROW becomes it by exclusive or with a mask (of a short the lowest eight bits alone "
-            + "change): what it is then (as byteOf()).");
+        Edge.of(20, "Number k of its ROW becomes it by exclusive or with a mask (of a short the lowest eight bits "
+            + "alone change): what it is then (as byteOf()).");
         VoiceHouse x = line(1);
         x.again(0, 0);
         x.again(0, 0);
@@ -196,8 +197,8 @@ public final class LineEdges {
     }
 
     private static void resum() {
-        Edge.of(21, "The last byte of its ROW becomes the SUM of those before: it (as byteOf()). BAD; STATE: no ROW, one of "
-            + "shorts, or an empty one.");
+        Edge.of(21, "The last byte of its ROW becomes the SUM of those before: it (as byteOf()). BAD; STATE: no ROW, "
+            + "one of shorts, or an empty one.");
         Edge.noSuchFrame("resum");
         Edge.refused(Scene.BUSY, Edge.STATE, "resum", 0, LOST);
         Edge.refused(Scene.BUSY, Edge.STATE, "resum", 0, SHORTS);
@@ -220,8 +221,8 @@ public final class LineEdges {
     }
 
     private static void shorts() {
-        Edge.of(22, "Its ROW is a new one, of shorts, with the same bytes (with their signs): 1. BAD; STATE: no ROW, or one "
-            + "of shorts.");
+        Edge.of(22, "Its ROW is a new one, of shorts, with the same bytes (with their signs): 1. BAD; STATE: no ROW, "
+            + "or one of shorts.");
         Edge.noSuchFrame("shorts");
         Edge.refused(Scene.BUSY, Edge.STATE, "shorts", 0, LOST);
         Edge.refused(Scene.BUSY, Edge.STATE, "shorts", 0, SHORTS);
@@ -357,8 +358,8 @@ public final class LineEdges {
     }
 
     private static void feed() {
-        Edge.of(27, "The tape, which is empty then, is the ROW of a frame at the end of the LINE, with a LABEL (0 .. 65535): "
-            + "how many there are. BAD;");
+        Edge.of(27, "The tape, which is empty then, is the ROW of a frame at the end of the LINE, with a LABEL (0 .. "
+            + "65535): how many there are. BAD;");
         Edge.noSuchCoder("feed", 5);
         for (int label : new int[] {-1, 65536, MIN, MAX}) {
             Edge.bad("feed", 0, label);

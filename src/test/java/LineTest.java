@@ -29,6 +29,7 @@ public final class LineTest {
     }
 
     private static void reading() {
+        Check.under("Promises 15 to 17");
         VoiceHouse x = line(2);
         Check.due("length(0, 1)", x.length(0, 1), 3);
         Check.due("length(0, 2)", x.length(0, 2), BAD);
@@ -50,6 +51,7 @@ public final class LineTest {
     }
 
     private static void lose() {
+        Check.under(Document.promise(18));
         VoiceHouse x = line(2);
         Check.due("lose(0, 2)", x.lose(0, 2), BAD);
         Check.due("lose(1, 0)", x.lose(1, 0), BAD);
@@ -66,6 +68,7 @@ public final class LineTest {
     }
 
     private static void cut() {
+        Check.under(Document.promise(19));
         VoiceHouse x = line(2);
         x.again(0, 0);
         Check.due("cut(0, 3, 0)", x.cut(0, 3, 0), BAD);
@@ -88,6 +91,7 @@ public final class LineTest {
     }
 
     private static void damage() {
+        Check.under(Document.promise(20));
         VoiceHouse x = line(2);
         x.again(0, 0);
         int[][] bad = {{1, 0, 0, 1}, {-1, 0, 0, 1}, {0, 3, 0, 1}, {0, -1, 0, 1}, {0, 0, 0, 0}, {0, 0, 0, 256},
@@ -111,6 +115,7 @@ public final class LineTest {
     }
 
     private static void resum() {
+        Check.under(Document.promise(21));
         VoiceHouse x = line(2);
         x.again(0, 0);
         Check.due("resum(0, 3)", x.resum(0, 3), BAD);
@@ -131,6 +136,7 @@ public final class LineTest {
     }
 
     private static void shorts() {
+        Check.under(Document.promise(22));
         VoiceHouse x = line(2);
         x.again(0, 0);
         Check.due("shorts(0, 3)", x.shorts(0, 3), BAD);
@@ -156,6 +162,7 @@ public final class LineTest {
     }
 
     private static void order() {
+        Check.under(Document.promise(23));
         VoiceHouse x = line(4);
         Check.due("order(0, 0, 4)", x.order(0, 0, 4), BAD);
         Check.due("order(0, 4, 0)", x.order(0, 4, 0), BAD);
@@ -175,6 +182,7 @@ public final class LineTest {
     }
 
     private static void drop() {
+        Check.under(Document.promise(24));
         VoiceHouse x = line(3);
         Check.due("drop(0, 3)", x.drop(0, 3), BAD);
         Check.due("drop(0, -1)", x.drop(0, -1), BAD);
@@ -188,6 +196,7 @@ public final class LineTest {
     }
 
     private static void again() {
+        Check.under(Document.promise(25));
         VoiceHouse x = line(2);
         Check.due("again(0, 2)", x.again(0, 2), BAD);
         Check.due("again(1, 0)", x.again(1, 0), BAD);
@@ -212,6 +221,7 @@ public final class LineTest {
     }
 
     private static void type() {
+        Check.under(Document.promise(26));
         VoiceHouse x = new VoiceHouse();
         x.coder(0);
         Check.due("type(1, 0)", x.type(1, 0), BAD);
@@ -238,6 +248,7 @@ public final class LineTest {
     }
 
     private static void feed() {
+        Check.under(Document.promise(27));
         VoiceHouse x = new VoiceHouse();
         x.coder(0);
         x.type(5, 1);

@@ -10,6 +10,7 @@ public final class NumberEdges {
         saturationsOfW();
         half();
         shiftsAndQuotients();
+        exactSums();
         draws();
         mostCoders();
         mostWaiting();
@@ -73,8 +74,8 @@ public final class NumberEdges {
     }
 
     /**
-     * Within W's reach no sum can leave it: the p(k) are below 2^30 in size, and the recursion of a true correlation lets
-     * no P(i) grow above P(0). So the loudest signals there are count none of it: these have INDEXES 0, and no S.
+     * No signal leaves W's range: the p(k) are 2^30 in size at most, and the recursion of a true correlation lets no
+     * P(i) grow above that. So all that can be held here is that the first r(0) that is shifted, 2^30, counts nothing.
      */
     private static void saturationsOfW() {
         Edge.of(Document.NUMBERS, "W(v) v, or the nearest of -2^31 .. 2^31 - 1");
@@ -140,19 +141,32 @@ public final class NumberEdges {
         Edge.due(x, -2, "work", 22);
     }
 
+    /** r(0) is 320 times 2^30, 0 in an int; p(0) and p(1) are 319 to 320 and a thousandth. FCOST is far below -2^31. */
+    private static void exactSums() {
+        Edge.of(Document.NUMBERS, "All sums are exact.");
+        VoiceHouse x = Scene.coder(1);
+        x.wave(0, 0, -32768, 0, 320);
+        x.encode(0);
+        Edge.due(x, -31, "index", 0, 1);
+        VoiceHouse y = Scene.coder(0);
+        y.wave(0, 4, 39, 32767, 160);
+        y.encode(0);
+        // pulses at 0 and at 39, where 16 and -8 are cut off
+        Edge.due(y, 28672L * 28672 * (1344 + 1024) - 64L * 28672 * 2 * 32 * 32767, "cost", 0, 0, 1, false);
+    }
+
     /** What HUSH draws: from 65535, the greatest z it can have, and from 0. */
     private static void draws() {
-        Edge.of(Document.NUMBERS, "A DRAW from z: z becomes (z * 1103515245 + 12345) modulo 2^31; it tells (z >> 16) modulo "
-            + "256, less 128.");
+        Edge.of(Document.NUMBERS, "A DRAW from z: z becomes (z * 1103515245 + 12345) modulo 2^31; it tells (z >> 16) "
+            + "modulo 256, less 128.");
         for (int label : new int[] {0, 1, 32768, 65535}) {
             VoiceHouse x = Scene.coder(0);
             x.start(0, label);
             Frames.sealed(x, 0, label, Frames.silence(0, 256));
             x.decode(0);
-            long z = label;
+            int[] draws = Frames.draws(label, 160);
             for (int n = 0; n < 160; n++) {
-                z = (z * 1103515245L + 12345L) % 2147483648L;
-                Edge.due(x, z / 65536 % 256 - 128, "out", 0, n);
+                Edge.due(x, draws[n], "out", 0, n);
             }
         }
     }
@@ -215,7 +229,8 @@ public final class NumberEdges {
     }
 
     private static void framesAndParts() {
-        Edge.of(Document.NUMBERS, "a FRAME has 160 samples (0), or 320 (1), and four PARTS 0 .. 3 of SUB samples (40, 80).");
+        Edge.of(Document.NUMBERS, "a FRAME has 160 samples (0), or 320 (1), and four PARTS 0 .. 3 of SUB samples (40, "
+            + "80).");
         for (int rate = 0; rate < 2; rate++) {
             int sub = 40 + 40 * rate;
             VoiceHouse x = Scene.coder(rate);

@@ -73,7 +73,8 @@ public final class OpeningEdges {
     }
 
     private static void copyOfTheHead() {
-        Edge.of(Document.LINE, "3 COPY: the ROW has fewer bytes than are to be copied (its last one, the SUM, may be among them).");
+        Edge.of(Document.LINE, "3 COPY: the ROW has fewer bytes than are to be copied (its last one, the SUM, may be "
+            + "among them).");
         for (int length = 0; length <= 5; length++) {
             sealed(length + " bytes", 3, Arrays.copyOf(new int[] {1, 0, 28, 0, 0, 0}, length));
             raw(length + " bytes without a SUM", 3, Arrays.copyOf(new int[] {1, 0, 28, 0, 0, 0}, length));
@@ -244,8 +245,8 @@ public final class OpeningEdges {
     }
 
     private static void places() {
-        Edge.of(Document.LINE, "a place: with b without sign, 2 ((b / 2) modulo (SUB / 2)), of the odd one 1 more, SIGN the lowest "
-            + "bit;");
+        Edge.of(Document.LINE, "a place: with b without sign, 2 ((b / 2) modulo (SUB / 2)), of the odd one 1 more, "
+            + "SIGN the lowest bit;");
         int[] bytes = {0, 1, 2, 38, 39, 40, 41, 78, 79, 80, 81, 127, 128, 158, 159, 160, 254, 255};
         for (int rate = 0; rate < 2; rate++) {
             int sub = 40 + 40 * rate;

@@ -208,11 +208,7 @@ public final class SampleEdges {
         sampleDue(2, 0, 1, 1, 0);
         sampleDue(2, 0, 0, 0, 0);
         sampleDue(2, MAX, 1, 0, -1);
-        long z = 7;
-        for (int i = 0; i < 320; i++) {
-            z = (z * 1103515245L + 12345L) % (1L << 31);
-        }
-        sampleDue(2, 7, 256, 319, 2 * ((int) (z / 65536 % 256) - 128));
+        sampleDue(2, 7, 256, 319, 2 * Frames.draws(7, 320)[319]);
     }
 
     private static void encode() {
@@ -376,8 +372,8 @@ public final class SampleEdges {
 
     /** No past: PCOST 0. One 1000 at place 0: the least of all pairs of pulses and gains, summed up here. */
     private static void costOfPulses() {
-        Edge.of(14, "PCOST (which = 0), FCOST (1) of a PART of the latest frame encoded, as it was found; or (whole) the least "
-            + "that the WHOLE search would have found there");
+        Edge.of(14, "PCOST (which = 0), FCOST (1) of a PART of the latest frame encoded, as it was found; or (whole) "
+            + "the least that the WHOLE search would have found there");
         VoiceHouse x = Scene.coder(0);
         x.wave(0, 4, 640, 1000, 160);
         x.encode(0);

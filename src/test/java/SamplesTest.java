@@ -32,6 +32,7 @@ public final class SamplesTest {
     }
 
     private static void sample() {
+        Check.under(Document.promise(9));
         VoiceHouse x = withCoder(0);
         Check.due("sample(0, 32768)", x.sample(0, 32768), BAD);
         Check.due("sample(0, -32769)", x.sample(0, -32769), BAD);
@@ -49,6 +50,7 @@ public final class SamplesTest {
     }
 
     private static void waveIsRefused() {
+        Check.under(Document.promise(10));
         VoiceHouse x = withCoder(0);
         int[][] bad = {{1, 0, 0, 0, 1}, {-1, 0, 0, 0, 1}, {0, -1, 5, 5, 1}, {0, 5, 5, 5, 1}, {0, 0, 5, 5, 0},
             {0, 0, 5, 5, 321}, {0, 0, 5, 5, -1}, {0, 0, 32768, 0, 1}, {0, 0, -32769, 0, 1}, {0, 1, 1, 5, 1},
@@ -63,6 +65,7 @@ public final class SamplesTest {
     }
 
     private static void waveAnswers() {
+        Check.under(Document.promise(10));
         VoiceHouse x = withCoder(0);
         Check.due("of kind 0 any q", x.wave(0, 0, -32768, -9999999, 1), 1);
         Check.due("of kind 2 any p", x.wave(0, 2, 2147483647, 32767, 1), 2);
@@ -102,6 +105,7 @@ public final class SamplesTest {
     }
 
     private static void waveShapes() {
+        Check.under(Document.promise(10));
         int[] saw = {-100, -80, -60, -40, -20, 0, 20, 40, 60, 80, -100};
         for (int i = 0; i < saw.length; i++) {
             Check.due("kind 1 at " + i, peakBehind(1, 10, 100, i), halved(saw[i]));
@@ -120,6 +124,7 @@ public final class SamplesTest {
 
     /** From z = 0: 12345 (0 - 128), then 1406932606 (21468 modulo 256 is 220: 92), then 654583775 (9988: 4 - 128). */
     private static void waveDraws() {
+        Check.under(Document.promise(10));
         Check.due("first draw", peakBehind(2, 0, 128, 0), halved(-128));
         Check.due("second draw", peakBehind(2, 0, 128, 1), halved(92));
         Check.due("third draw", peakBehind(2, 0, 128, 2), halved(-124));
@@ -128,6 +133,7 @@ public final class SamplesTest {
     }
 
     private static void encodeIsRefused() {
+        Check.under(Document.promise(11));
         VoiceHouse x = withCoder(0);
         Check.due("encode(1)", x.encode(1), BAD);
         Check.due("encode(-1)", x.encode(-1), BAD);
@@ -153,6 +159,7 @@ public final class SamplesTest {
     }
 
     private static void encodeTakesTheFirst() {
+        Check.under(Document.promise(11));
         VoiceHouse x = withCoder(0);
         x.silence(0, 32769);
         x.wave(0, 0, 7, 0, 160);
@@ -170,6 +177,7 @@ public final class SamplesTest {
      * -32768 * 159000000 / 160156251 = -32531 and INDEX 1 = (-32531 + 512) >> 10 = -32: -31, a SATURATION.
      */
     private static void loudRamp() {
+        Check.under(Document.promise(11));
         VoiceHouse x = withCoder(0);
         x.wave(0, 0, 1000, 0, 160);
         x.encode(0);
@@ -194,6 +202,7 @@ public final class SamplesTest {
 
     /** 1, 1: r(0) = 2, r(1) = 1, p(0) is 3 then: z = -10922, INDEX 1 = -10410 >> 10 = -11. */
     private static void tinySignals() {
+        Check.under(Document.promise(11));
         Check.due("INDEX 1 of 1, 1", encoded(1, 1).index(0, 1), -11);
         Check.due("INDEX 1 of 1, -1", encoded(1, -1).index(0, 1), 11);
         VoiceHouse x = encoded();
@@ -204,6 +213,7 @@ public final class SamplesTest {
 
     /** By rounding P(1) gets as great as P(0) here: the INDEXES from there on are 0. */
     private static void predictionEndsEarly() {
+        Check.under(Document.promise(11));
         int[][] signals = {{1, -1, 1, -1, 1, -1, 1, -1, 1, -1}, {0, 1, 0, -1, -1, 0, 1}, {1, 1, 0, 0, 1, 1, -1, -1}};
         int[][] want = {{26, -8, -8, -8, -16, -21, 0, 0}, {-6, 13, 16, 11, 11, 21, 0, 0},
             {-9, 16, -19, 11, -11, 11, -11, 0}};
@@ -217,6 +227,7 @@ public final class SamplesTest {
 
     /** One pulse of 8192 alone: all r(k) but r(0) are 0, so no prediction; the RESTS are the samples. */
     private static void impulse() {
+        Check.under(Document.promise(11));
         VoiceHouse x = withCoder(0);
         x.sample(0, 0);
         x.sample(0, 0);
@@ -251,6 +262,7 @@ public final class SamplesTest {
 
     /** Of zeros: everything costs least where it costs nothing, but for the pulses, which can't be left out. */
     private static void zeroFrame() {
+        Check.under(Document.promise(11));
         VoiceHouse x = withCoder(0);
         x.search(0, 1, 1);
         x.wave(0, 0, 0, 0, 160);
@@ -268,6 +280,7 @@ public final class SamplesTest {
     }
 
     private static void silentFrame() {
+        Check.under(Document.promise(11));
         VoiceHouse x = withCoder(1);
         x.silence(0, 32769);
         x.start(0, 258);
@@ -292,6 +305,7 @@ public final class SamplesTest {
     }
 
     private static void pick() {
+        Check.under(Document.promise(12));
         VoiceHouse x = withCoder(0);
         Check.due("pick() before a frame", x.pick(0, 0, 0), STATE);
         Check.due("BAD is named first", x.pick(0, 4, 0), BAD);
@@ -319,6 +333,7 @@ public final class SamplesTest {
     }
 
     private static void index() {
+        Check.under(Document.promise(13));
         VoiceHouse x = withCoder(0);
         Check.due("index() before a frame", x.index(0, 1), NO);
         Check.due("status()", x.status(), STATE);
@@ -341,6 +356,7 @@ public final class SamplesTest {
     }
 
     private static void costIsRefused() {
+        Check.under(Document.promise(14));
         VoiceHouse x = withCoder(0);
         Check.due("cost() before a frame", x.cost(0, 0, 0, true), Long.MIN_VALUE);
         Check.due("status()", x.status(), STATE);
@@ -352,6 +368,7 @@ public final class SamplesTest {
     }
 
     private static void cost() {
+        Check.under(Document.promise(14));
         VoiceHouse x = withCoder(0);
         boolean whereNestedMisses = false;
         for (int k = 0; k < 6; k++) {
@@ -379,6 +396,7 @@ public final class SamplesTest {
     }
 
     private static void costKeepsTheRateOfItsFrame() {
+        Check.under(Document.promise(14));
         VoiceHouse x = withCoder(1);
         x.search(0, 0, 1);
         x.search(0, 1, 1);
@@ -392,6 +410,7 @@ public final class SamplesTest {
     }
 
     private static void numbersAndSum() {
+        Check.under(Document.promise(11));
         VoiceHouse x = withCoder(1);
         x.start(0, 4660);
         x.wave(0, 3, 61, 9000, 320);

@@ -53,12 +53,25 @@ public final class ToldEdges {
     }
 
     private static void countOfWork() {
-        Edge.of(40, "0 samples that WAIT, 1 frames in the LINE, 2 NEXT, 3 the next NUMBER, 4 frames encoded, 5 decoded, "
-            + "6 LATE, 7 REPAIRED (MENDED, too), 8 MENDED");
+        Edge.of(40, "0 samples that WAIT, 1 frames in the LINE, 2 NEXT, 3 the next NUMBER, 4 frames encoded, 5 "
+            + "decoded, 6 LATE, 7 REPAIRED (MENDED, too), 8 MENDED");
         VoiceHouse x = Scene.BUSY.get();
         int[] want = {7, 4, 65534, 1, 4, 1, 0, 0, 0, 0};
         for (int what = 0; what <= 9; what++) {
             Edge.due(x, want[what], "count", 0, what);
+        }
+        // 65534 is LATE, 65535 missing and MENDED by 0, 1 missing and REPEATED
+        VoiceHouse y = Scene.coder(0);
+        y.start(0, 65535);
+        Frames.sealed(y, 0, 65534, Frames.voice(0, 20));
+        Frames.sealed(y, 0, 0, Frames.mending(0, 0));
+        y.feed(0, 9);
+        for (int n = 0; n < 3; n++) {
+            y.decode(0);
+        }
+        int[] then = {0, 1, 2, 65535, 0, 3, 1, 2, 1, 0};
+        for (int what = 0; what <= 9; what++) {
+            Edge.due(y, then[what], "count", 0, what);
         }
         Edge.due(Scene.FULL_WAIT.get(), 640, "count", 0, 0);
         Edge.due(Scene.FULL_LINE.get(), 250, "count", 0, 1);
@@ -154,7 +167,8 @@ public final class ToldEdges {
     }
 
     private static void digestWraps() {
-        Edge.of(43, "d is 7; for H(0) to H(159), V(0) to V(7), INDEXES 1 to 8, LAG it becomes 31 d and that (ints that wrap).");
+        Edge.of(43, "d is 7; for H(0) to H(159), V(0) to V(7), INDEXES 1 to 8, LAG it becomes 31 d and that (ints that "
+            + "wrap).");
         for (int side = 0; side < 2; side++) {
             VoiceHouse x = Scene.BUSY.get();
             long exact = 7;
@@ -235,8 +249,8 @@ public final class ToldEdges {
     }
 
     private static void clear() {
-        Edge.of(46, "No coders, an empty tape, BENCH and TRACE; counts of FINDINGS and SATURATIONS stay: how many coders there "
-            + "were.");
+        Edge.of(46, "No coders, an empty tape, BENCH and TRACE; counts of FINDINGS and SATURATIONS stay: how many "
+            + "coders there were.");
         VoiceHouse x = new VoiceHouse();
         Edge.due(x, 0, "clear");
         Edge.due(x, 0, "clear");
@@ -277,22 +291,10 @@ public final class ToldEdges {
         VoiceHouse x = Scene.coder(0);
         Frames.sealed(x, 0, 0, Frames.with(Frames.voice(4, 4), 18, 51));
         x.decode(0);
-        int[] labels = {1, 2, 3, 4, 5, 6};
-        for (int label : labels) {
-            int i = Frames.sealed(x, 0, label, Frames.voice(0, 0));
-            switch (label) {
-                case 1 -> x.lose(0, i);
-                case 2 -> x.shorts(0, i);
-                case 3 -> x.cut(0, i, 5);
-                case 4 -> x.damage(0, i, 9, 1);
-                case 5 -> x.damage(0, i, 2, 128);
-                default -> x.damage(0, i, 2, 1 ^ 28);
-            }
-            if (label > 4) {
-                x.resum(0, i);
-            }
+        for (int finding = 1; finding <= 6; finding++) {
+            Frames.spoil(x, 0, Frames.sealed(x, 0, finding, Frames.voice(0, 0)), finding);
             x.decode(0);
-            Edge.due(x, label, "finding", 0);
+            Edge.due(x, finding, "finding", 0);
         }
         x.decode(0);
         x.clear();

@@ -34,6 +34,7 @@ public final class ToldTest {
     }
 
     private static void traceOfEncode() {
+        Check.under(Document.promise(39));
         VoiceHouse x = house();
         traced(x);
         x.wave(0, 0, 100, 0, 160);
@@ -51,6 +52,7 @@ public final class ToldTest {
     }
 
     private static void traceIsOfTheLatest() {
+        Check.under(Document.promise(39));
         VoiceHouse x = house();
         x.coder(0);
         x.wave(0, 0, 100, 0, 160);
@@ -66,6 +68,7 @@ public final class ToldTest {
     }
 
     private static void counts() {
+        Check.under(Document.promise(40));
         VoiceHouse x = house();
         Check.due("count(0, -1)", x.count(0, -1), BAD);
         Check.due("count(0, 10)", x.count(0, 10), BAD);
@@ -96,6 +99,7 @@ public final class ToldTest {
     }
 
     private static void found() {
+        Check.under(Document.promise(41));
         VoiceHouse x = house();
         x.coder(0);
         Check.due("found(0)", x.found(0), BAD);
@@ -113,6 +117,7 @@ public final class ToldTest {
 
     /** G(51) is 28672: an even and an odd pulse beside one another are 28672, 43008 (cut), 7168, -7168. */
     private static void saturations() {
+        Check.under(Document.promise(42));
         VoiceHouse x = house();
         Frames.sealed(x, 0, 0, Frames.with(Frames.voice(4, 4), 18, 51));
         x.decode(0);
@@ -126,6 +131,7 @@ public final class ToldTest {
     }
 
     private static void digest() {
+        Check.under(Document.promise(43));
         VoiceHouse x = house();
         int d = 7;
         for (int k = 0; k < 176; k++) {
@@ -157,6 +163,7 @@ public final class ToldTest {
     }
 
     private static void status() {
+        Check.under(Document.promise(44));
         VoiceHouse x = house();
         Check.due("status()", x.status(), 0);
         x.told(9);
@@ -197,6 +204,7 @@ public final class ToldTest {
 
     /** Each refusal once, then everything that is told is as before. */
     private static void refusedCallsChangeNothing() {
+        Check.under(Document.promise(44));
         VoiceHouse x = house();
         VoiceHouse y = house();
         for (VoiceHouse one : new VoiceHouse[] {x, y}) {
@@ -248,6 +256,7 @@ public final class ToldTest {
     }
 
     private static void told() {
+        Check.under(Document.promise(45));
         VoiceHouse x = house();
         x.coder(1);
         x.type(7, 5);
@@ -264,6 +273,7 @@ public final class ToldTest {
     }
 
     private static void clear() {
+        Check.under(Document.promise(46));
         VoiceHouse x = house();
         Check.due("clear()", x.clear(), 1);
         Check.due("clear() of nothing", x.clear(), 0);
@@ -299,6 +309,7 @@ public final class ToldTest {
     }
 
     private static void clearKeepsCounts() {
+        Check.under(Document.promise(46));
         VoiceHouse x = house();
         Frames.sealed(x, 0, 0, Frames.with(Frames.voice(4, 4), 18, 51));
         x.decode(0);

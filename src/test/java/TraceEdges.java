@@ -27,10 +27,6 @@ public final class TraceEdges {
         Edge.refusedOn(x, Edge.NONE, "trace", -1);
     }
 
-    private static int[] mending() {
-        return Frames.with(Arrays.copyOf(Frames.voice(0, 20), 37), 5, 2);
-    }
-
     private static void emptyAtFirst() {
         Edge.of(Document.TRACE, "TRACE is of the latest encode() or decode() that was not refused");
         traced(new VoiceHouse());
@@ -70,8 +66,8 @@ public final class TraceEdges {
     }
 
     private static void ofEncode() {
-        Edge.of(Document.TRACE, "of VOICE alone 3 PREDICTION, 4 LATTICE, of each PART 10 or 11 PITCH, 12 or 13 PULSES (by their "
-            + "search), 14 EXCITED; 15 the FRAME is made;");
+        Edge.of(Document.TRACE, "of VOICE alone 3 PREDICTION, 4 LATTICE, of each PART 10 or 11 PITCH, 12 or 13 PULSES "
+            + "(by their search), 14 EXCITED; 15 the FRAME is made;");
         for (int kinds = 0; kinds < 4; kinds++) {
             VoiceHouse x = Scene.coder(kinds / 2);
             x.search(0, 0, kinds % 2);
@@ -95,7 +91,8 @@ public final class TraceEdges {
     }
 
     private static void ofOpening() {
-        Edge.of(Document.TRACE, "of decode() 20 a frame is OPENED (without a ROW, too), 21 that has ended, in any case;");
+        Edge.of(Document.TRACE, "of decode() 20 a frame is OPENED (without a ROW, too), 21 that has ended, in any "
+            + "case;");
         VoiceHouse x = Scene.coder(0);
         Frames.sealed(x, 0, 0, Frames.voice(0, 0));
         x.decode(0);
@@ -113,29 +110,20 @@ public final class TraceEdges {
         for (int finding = 1; finding <= 6; finding++) {
             VoiceHouse x = Scene.coder(0);
             int i = Frames.sealed(x, 0, 0, Frames.voice(0, 0));
-            switch (finding) {
-                case 1 -> x.lose(0, i);
-                case 2 -> x.shorts(0, i);
-                case 3 -> x.cut(0, i, 5);
-                case 4 -> x.damage(0, i, 34, 1);
-                case 5 -> x.damage(0, i, 2, 128);
-                default -> x.damage(0, i, 2, 27 ^ 28);
-            }
-            if (finding > 4) {
-                x.resum(0, i);
-            }
+            Frames.spoil(x, 0, i, finding);
             x.decode(0);
             traced(x, 20, 21, 30 + finding, 42, 60);
         }
     }
 
     private static void ofGaps() {
-        Edge.of(Document.TRACE, "of a GAP it comes first), then 20, 21 of the frame with the LABEL NEXT and 1, if there is one;");
+        Edge.of(Document.TRACE, "of a GAP it comes first), then 20, 21 of the frame with the LABEL NEXT and 1, if "
+            + "there is one;");
         VoiceHouse x = Scene.coder(0);
         x.feed(0, 60000);
         x.decode(0);
         traced(x, 37, 42, 60);
-        Frames.sealed(x, 0, 2, mending());
+        Frames.sealed(x, 0, 2, Frames.mending(0, 0));
         x.decode(0);
         traced(x, 37, 20, 21, 43, 60);
     }
@@ -144,7 +132,7 @@ public final class TraceEdges {
         Edge.of(Document.TRACE, "then 20, 21 of the frame with the LABEL NEXT and 1, if there is one;");
         VoiceHouse x = Scene.coder(0);
         x.feed(0, 0);
-        Frames.sealed(x, 0, 1, mending());
+        Frames.sealed(x, 0, 1, Frames.mending(0, 0));
         x.decode(0);
         traced(x, 20, 21, 33, 20, 21, 43, 60);
         // one that cannot mend is opened, too: without REDUNDANCY, or with a FINDING, which has no number here
@@ -166,7 +154,7 @@ public final class TraceEdges {
         x.drop(0, 0);
         x.drop(0, 0);
         Frames.sealed(x, 0, 4, Frames.voice(0, 0));
-        Frames.sealed(x, 0, 5, mending());
+        Frames.sealed(x, 0, 5, Frames.mending(0, 0));
         x.decode(0);
         traced(x, 20, 21, 40, 60);
     }
@@ -176,7 +164,7 @@ public final class TraceEdges {
         VoiceHouse x = Scene.coder(0);
         Frames.sealed(x, 0, 0, Frames.voice(0, 0));
         Frames.sealed(x, 0, 1, Frames.silence(1, 0));
-        Frames.sealed(x, 0, 3, mending());
+        Frames.sealed(x, 0, 3, Frames.mending(0, 0));
         x.decode(0);
         traced(x, 20, 21, 40);
         x.decode(0);
@@ -229,7 +217,7 @@ public final class TraceEdges {
             x.stage(0, place, 3);
         }
         x.feed(0, 0);
-        Frames.sealed(x, 0, 1, mending());
+        Frames.sealed(x, 0, 1, Frames.mending(0, 0));
         x.decode(0);
         traced(x, 20, 21, 33, 20, 21, 43, 53, 52, 53, 52, 53, 52, 53, 52, 60);
     }

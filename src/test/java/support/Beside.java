@@ -1,4 +1,4 @@
-/** One coder of a house, and the naive model beside it: the same calls, and all that an encoded frame shows compared. */
+/** One coder of a house, and the naive model beside it: the same calls, and all that an encoded frame shows. */
 final class Beside {
     final VoiceHouse x = new VoiceHouse();
     private final Model model = new Model();

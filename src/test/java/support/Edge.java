@@ -59,9 +59,14 @@ final class Edge {
         return name + "(" + list.substring(1, list.length() - 1) + ")";
     }
 
+    /** A call by its answer alone: of long rows, for status() is a call, too, and a house is promised for 512. */
+    static void told(VoiceHouse x, long want, String name, Object... args) {
+        Check.due(said(name, args), call(x, name, args), want);
+    }
+
     /** A call that is not refused. */
     static void due(VoiceHouse x, long want, String name, Object... args) {
-        Check.due(said(name, args), call(x, name, args), want);
+        told(x, want, name, args);
         if (!name.equals("status")) {
             Check.due("status() behind " + said(name, args), x.status(), 0);
         }

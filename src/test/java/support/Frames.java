@@ -1,3 +1,5 @@
+import java.util.Arrays;
+
 /** Frames typed by hand, for tests. */
 final class Frames {
     private Frames() {
@@ -11,8 +13,13 @@ final class Frames {
     }
 
     static int raw(VoiceHouse x, int c, int label, int... bytes) {
-        for (int b : bytes) {
-            x.type(b, 1);
+        for (int from = 0; from < bytes.length; from += 8) {
+            int n = Math.min(8, bytes.length - from);
+            long w = 0;
+            for (int k = 0; k < n; k++) {
+                w = 256 * w + bytes[from + k];
+            }
+            x.type(w, n);
         }
         return x.feed(c, label) - 1;
     }
@@ -43,5 +50,35 @@ final class Frames {
 
     static int[] silence(int rate, int peak) {
         return new int[] {2, rate, 2, 0, 0, 0, peak / 256, peak % 256, 0};
+    }
+
+    /** VOICE of rate 0 with two bytes of REDUNDANCY, which tell a lag and p. */
+    static int[] mending(int lag, int p) {
+        return with(Arrays.copyOf(voice(0, 20), 37), 5, 2, 34, lag, 35, p);
+    }
+
+    /** Frame i, which was sealed and is VOICE, gets this FINDING, 1 to 6, when it is opened. */
+    static void spoil(VoiceHouse x, int c, int i, int finding) {
+        switch (finding) {
+            case 1 -> x.lose(c, i);
+            case 2 -> x.shorts(c, i);
+            case 3 -> x.cut(c, i, 5);
+            case 4 -> x.damage(c, i, 34, 1);
+            case 5 -> x.damage(c, i, 2, 128);
+            default -> x.damage(c, i, 2, 27 ^ 28);
+        }
+        if (finding > 4) {
+            x.resum(c, i);
+        }
+    }
+
+    /** What the first DRAWS from z tell. */
+    static int[] draws(long z, int count) {
+        int[] told = new int[count];
+        for (int n = 0; n < count; n++) {
+            z = (z * 1103515245L + 12345L) % (1L << 31);
+            told[n] = (int) (z / 65536 % 256) - 128;
+        }
+        return told;
     }
 }

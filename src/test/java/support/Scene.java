@@ -16,9 +16,9 @@ final class Scene {
     }
 
     /**
-     * Coder 0 has settings of its own, has encoded VOICE and decoded; 7 samples wait; in its line are a ROW of 37 bytes,
-     * one of 37 shorts, none, and an empty one. Coder 1 has encoded SILENCE and decoded nothing. Coder 2 is new. Three
-     * bytes are on the tape, 160 samples on the bench.
+     * Coder 0 has settings of its own, has encoded VOICE and decoded; 7 samples wait; in its line are a ROW of 37
+     * bytes, one of 37 shorts, none, and an empty one. Coder 1 has encoded SILENCE and decoded nothing. Coder 2 is new.
+     * Three bytes are on the tape, 160 samples on the bench.
      */
     private static VoiceHouse busy() {
         VoiceHouse x = new VoiceHouse();
